@@ -106,6 +106,8 @@ final class CommandsTest {
     due("20: the 11th", x.command(0, 0, 1, 1, 0, 0, 0), -3);
     due("20: bad goes ahead of full", x.command(0, 0, 1, 10, 0, 0, 0), -1);
     due("20: ten", x.count(2), 10);
+    due("23: of ten", x.hidden(), -4);
+    due("21: of ten", x.parse(0), 0);
   }
 
   private static void parse() {
@@ -214,6 +216,16 @@ final class CommandsTest {
     due("23: the same rank, a less number", x.hidden(), 4);
     add(x, 1, 6, 1, 2);
     due("23: a greater rank, a greater number", x.hidden(), 0);
+    StrokeBook first = new StrokeBook();
+    add(first, 0, 5, 1, 2);
+    add(first, 0, 5, 3, 2);
+    due("23: the first label is another", first.hidden(), -4);
+    add(first, 0, 5, 1, 2, 3, 4);
+    add(first, 0, 5, 1, 2, 3, 5);
+    due("23: the last label is another", first.hidden(), -4);
+    add(first, 0, 4, 1, 2, 3, 4);
+    add(first, 0, 9, 6);
+    due("23: four labels", first.hidden(), 4);
     StrokeBook zeros = new StrokeBook();
     add(zeros, 0, 9, 0, 0);
     add(zeros, 0, 0, 0);

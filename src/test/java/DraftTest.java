@@ -192,6 +192,11 @@ final class DraftTest {
     Check.draw(x, 0, 0, -5, 0, 0, 0);
     dueNormal(x, 0, 1000, 334, -331, -996, -996, -331, 334, 1000);
     dueNormal(x, 1, 0, 0, 0, 0, 0, 0, 0, 0);
+    // Least -829, greatest 0 at the first point alone: the middle is -415, the greatest size its 415.
+    Check.draw(x, 0, 0, -9, 0, -1, 0);
+    due("6: even(4, 0)", x.even(4, 0), -829);
+    due("6: normal(0, 0)", x.normal(0, 0), 1000);
+    due("6: normal(4, 0)", x.normal(4, 0), -998);
     x.normal(0, 0);
     due("6: even is as before", x.even(0, 0), 0);
   }

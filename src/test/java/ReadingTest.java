@@ -195,7 +195,27 @@ final class ReadingTest {
     x.point(-low + dx - in, -low, false);
   }
 
+  /** Two strokes of two points each. */
+  private static void drawPairs(StrokeBook x, int... xy) {
+    x.clear();
+    for (int n = 0; n < 8; n += 2) {
+      x.point(xy[n], xy[n + 1], n == 4);
+    }
+  }
+
   private static void readAtFirst() {
+    StrokeBook y = new StrokeBook();
+    drawPairs(y, 1, 4, -9, 8, -6, 2, -10, -4);
+    y.teach(6, AS_IT_IS);
+    drawPairs(y, -8, 2, 4, -2, 5, 4, 2, 10);
+    due("14: just the end at first", y.distance(0), 20000);
+    due("16: at most", y.read(), 6);
+    drawPairs(y, 2, 7, 4, 6, 7, 2, 3, 3);
+    y.teach(6, AS_IT_IS);
+    y.forget(0);
+    drawPairs(y, 9, -6, -3, 6, 7, 10, 10, 5);
+    due("14: one more", y.distance(0), 20001);
+    due("16: beyond", y.read(), -5);
     StrokeBook x = new StrokeBook();
     drawFar(x, true, 0);
     x.teach(3, AS_IT_IS);
@@ -234,6 +254,11 @@ final class ReadingTest {
     due("16: the other way", x.read(), -5);
     x.label(2, 1);
     due("16: no other label now", x.read(), 1);
+    StrokeBook y = new StrokeBook();
+    teach(y, 2, AS_IT_IS, UP);
+    teach(y, 1, AS_IT_IS, RIGHT);
+    y.ends(20000, 9143);
+    due("16: the first one alone has another label", y.read(), -5);
   }
 
   private static void readRefused() {
@@ -312,6 +337,16 @@ final class ReadingTest {
     teach(alike, 6, AS_IT_IS, UP);
     due("18: at most", alike.confused(5, 9142), 2);
     due("18: less", alike.confused(5, 9141), 0);
+    for (int k = 3; k < 16; k++) {
+      alike.teach(k % 2 + 5, AS_IT_IS);
+    }
+    due("18: of sixteen", alike.confused(6, 100000), 8);
+    alike.forget(15);
+    due("18: a forgotten one is none", alike.confused(6, 100000), 7);
+    alike.forget(14);
+    due("18: a forgotten one is none", alike.confused(6, 100000), 7);
+    alike.forget(13);
+    due("18: a forgotten one is none", alike.confused(6, 100000), 6);
   }
 
   private static void confusedRefused() {

@@ -148,6 +148,8 @@ final class TeachingTest {
     due("9: label", x.undo(), 3);
     due("9: the first", x.told(1, 0), 1);
     due("9: its kind", x.told(1, 1), 1);
+    due("9: as many as there were", x.count(1), 3);
+    due("9: the one behind it", x.told(2, 0), 2);
   }
 
   private static void undoOfSixAtMost() {
