@@ -183,12 +183,12 @@ public final class StrokeBook {
 
   /** Promise 16. */
   public int read() {
-    return readDraft();
+    return labelRead(measureDraft());
   }
 
   /** Promise 17. */
   public int mark() {
-    int label = readDraft();
+    int label = labelRead(measureDraft());
     if (label < 0) {
       return label;
     }
@@ -383,9 +383,9 @@ public final class StrokeBook {
     return best;
   }
 
-  private int readDraft() {
-    int best = measureDraft();
-    if (best < 0) {
+  /** The label as which the draft, just measured, is read: best is the nearest, or why there is none. */
+  private int labelRead(int best) {
+    if (!marks.has(best)) {
       return best;
     }
     int label = marks.labels[best];
