@@ -2,8 +2,11 @@ import java.util.Random;
 
 /** Random runs of calls, the same each time: every answer is held against SlowBook's. */
 final class ModelTest {
-  private static final int RUNS = 150;
+  private static final int RUNS = 250;
+  /** What an object is used for at most. */
   private static final int CALLS = 512;
+  /** The most that one step calls, and then the counts at the end. */
+  private static final int CALLS_OF_A_STEP = 6, CALLS_AT_THE_END = 5;
   private static final int[] EXTREMES = Check.extremes();
   private static final Check CHECK = new Check("ModelTest");
 
@@ -13,6 +16,7 @@ final class ModelTest {
   private final SlowBook slow = new SlowBook();
   /** The lane that a sheet was last asked to have, so that most scans get past the cast. */
   private int lane = 0;
+  private int calls = 0;
 
   private ModelTest(int run) {
     this.run = run;
@@ -30,7 +34,8 @@ final class ModelTest {
     // Some runs draw and teach more, some read and mark more, so that every row gets full in one.
     int drawing = 10 + random.nextInt(50);
     int teaching = drawing + 5 + random.nextInt(15);
-    for (int n = 0; n < CALLS && CHECK.wrong() == 0; n++) {
+    while (calls <= CALLS - CALLS_OF_A_STEP - CALLS_AT_THE_END && CHECK.wrong() == 0) {
+      int before = calls;
       int sort = random.nextInt(100);
       if (sort < drawing) {
         draw();
@@ -43,13 +48,16 @@ final class ModelTest {
       } else {
         commands();
       }
+      CHECK.holds("a step has few calls", calls - before <= CALLS_OF_A_STEP);
     }
     for (int what = 0; what <= 4; what++) {
       due("count(" + what + ")", book.count(what), slow.count(what));
     }
+    CHECK.holds("an object is used for 512 calls at most", calls <= CALLS);
   }
 
   private void due(String call, int got, int want) {
+    calls++;
     CHECK.due("run " + run + ": " + call, got, want);
   }
 

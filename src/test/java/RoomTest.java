@@ -6,7 +6,8 @@ import java.lang.reflect.Modifier;
 /** What an object holds, and that the dearest calls make nothing more: all calls of a run live in one room. */
 final class RoomTest {
   private static final Check CHECK = new Check("RoomTest");
-  private static final int CALLS = 512;
+  /** Filling a book is 298 calls and a round of dear ones 17, so eleven rounds stay within its 512. */
+  private static final int BOOKS = 40, TIMES = 11;
   private static int objects = 0;
   private static int elements = 0;
 
@@ -15,12 +16,15 @@ final class RoomTest {
     System.out.println("RoomTest: a new object is " + objects + " objects of " + elements + " elements");
     CHECK.holds("few objects", objects <= 60);
     CHECK.holds("few elements", elements <= 3000);
-    StrokeBook book = fullBook();
-    dearCalls(book);
+    StrokeBook[] books = new StrokeBook[BOOKS];
+    for (int n = 0; n < BOOKS; n++) {
+      books[n] = fullBook();
+    }
+    dearCalls(fullBook());
     long before = made();
     long sum = 0;
-    for (int n = 0; n < CALLS; n++) {
-      sum += dearCalls(book);
+    for (int n = 0; n < BOOKS * TIMES; n++) {
+      sum += dearCalls(books[n % BOOKS]);
     }
     long after = made();
     CHECK.holds("the calls answered", sum != 0);
